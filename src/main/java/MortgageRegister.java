@@ -607,21 +607,30 @@ public final class MortgageRegister {
 
         /** Gives the places of both to the one ahead, until it has its debt, and then to the one that steps back. */
         void stepBack(int back, int ahead, int debt) {
+            partWhere(back, ahead, debt);
             int missing = debt;
             for (int i = 0; i < size; i++) {
-                if (owners[i] != back && owners[i] != ahead) {
-                    continue;
-                }
-                if (missing > 0 && amounts[i] > missing) {
-                    insert(i + 1, back, amounts[i] - missing, ranks[i]);
-                    amounts[i] = missing;
-                }
-                owners[i] = missing > 0 ? ahead : back;
-                if (missing > 0) {
+                if (owners[i] == back || owners[i] == ahead) {
+                    owners[i] = missing > 0 ? ahead : back;
                     missing -= amounts[i];
                 }
             }
             tidy();
+        }
+
+        /** Parts the slot of the two mortgages within which their slots reach the amount, if there is one. */
+        private void partWhere(int one, int other, int amount) {
+            int missing = amount;
+            for (int i = 0; i < size && missing > 0; i++) {
+                if (owners[i] == one || owners[i] == other) {
+                    if (amounts[i] > missing) {
+                        insert(i + 1, owners[i], amounts[i] - missing, ranks[i]);
+                        amounts[i] = missing;
+                        return;
+                    }
+                    missing -= amounts[i];
+                }
+            }
         }
 
         void removeAll(int mortgage) {
@@ -677,10 +686,10 @@ public final class MortgageRegister {
             while (start < size) {
                 int end = start;
                 int sum = 0;
-                while (end < size && ranks[end] == ranks[start]) {
+                do {
                     sum += amounts[end];
                     end++;
-                }
+                } while (end < size && ranks[end] == ranks[start]);
                 left -= shareRank(start, end, sum, Math.min(left, sum), gains);
                 start = end;
             }
