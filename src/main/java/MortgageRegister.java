@@ -136,19 +136,15 @@ public final class MortgageRegister {
             throw new IllegalArgumentException("the text has a fault");
         }
         history.prepare(ledger);
-        return settle(carryOutAll());
-    }
-
-    private int carryOutAll() {
         int entries = text.entries();
-        for (int i = 0; i < entries; i++) {
-            int answer = carryOut(i);
-            if (answer < 0) {
-                ledger.copyFrom(history.prepared());
-                return answer;
-            }
+        int answer = 0;
+        for (int i = 0; i < entries && answer >= 0; i++) {
+            answer = carryOut(i);
         }
-        return entries;
+        if (answer < 0) {
+            ledger.copyFrom(history.prepared());
+        }
+        return settle(answer < 0 ? answer : entries);
     }
 
     private int carryOut(int entry) {
@@ -991,11 +987,10 @@ public final class MortgageRegister {
             return surplus;
         }
 
+        // What is behind the last parcel and the last mortgage is 0 in every ledger, since all of it is copied.
         private int nextParcel(int worth) {
             int parcel = parcelsEver;
             worths[parcel] = worth;
-            prices[parcel] = 0;
-            rows[parcel].clear();
             parcelsEver++;
             return parcel;
         }
@@ -1004,7 +999,6 @@ public final class MortgageRegister {
             int mortgage = mortgagesEver;
             creditors[mortgage] = creditor;
             debts[mortgage] = amount;
-            receipts[mortgage] = 0;
             accounts[REGISTERED] += amount;
             mortgagesEver++;
             return mortgage;

@@ -107,8 +107,12 @@ public final class ChangesTest {
         x.cancel(4);
         CHECK.refused("3: a gone mortgage is kept", 4, x, () -> x.register(0, 1, 1));
         MortgageRegister y = withParcels(10, 10);
-        y.unite(0, 1);
+        y.unite(1, 0);
         CHECK.refused("3: a gone parcel", 1, y, () -> y.register(0, 1, 0b11));
+        CHECK.refused("3: a gone parcel alone", 1, y, () -> y.register(0, 1, 0b01));
+        MortgageRegister z = new MortgageRegister();
+        CHECK.refused("3: without parcels", 1, z, () -> z.register(0, 1, 1));
+        CHECK.refused("3: without parcels, none told", 2, z, () -> z.register(0, 1, 0));
     }
 
     // Promise 4

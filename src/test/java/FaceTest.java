@@ -85,12 +85,20 @@ public final class FaceTest {
             for (Method method : inside.getDeclaredMethods()) {
                 hidden.add(method.getName());
             }
+            for (Field field : inside.getDeclaredFields()) {
+                int modifiers = field.getModifiers();
+                boolean isFixed = Modifier.isFinal(modifiers) || !Modifier.isStatic(modifiers);
+                check.isTrue("no static state: " + inside.getName() + '.' + field.getName(), isFixed);
+            }
         }
         hidden.retainAll(names);
         check.due("hidden methods with a public name", hidden.toString(), "[]");
 
         for (Field field : type.getDeclaredFields()) {
-            check.isTrue("the field " + field.getName() + " is private", Modifier.isPrivate(field.getModifiers()));
+            int modifiers = field.getModifiers();
+            check.isTrue("the field " + field.getName() + " is private", Modifier.isPrivate(modifiers));
+            boolean isFixed = Modifier.isFinal(modifiers) || !Modifier.isStatic(modifiers);
+            check.isTrue("no static state: " + field.getName(), isFixed);
         }
         Constructor<?>[] constructors = type.getDeclaredConstructors();
         check.due("the number of constructors", constructors.length, 1);

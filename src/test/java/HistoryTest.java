@@ -13,6 +13,7 @@ public final class HistoryTest {
         refusedChangesCostNothing();
         save();
         restore();
+        restoreUsedNumbers();
         rowsThatGrow();
         CHECK.end();
     }
@@ -69,41 +70,40 @@ public final class HistoryTest {
         }
     }
 
+    private interface Change {
+        int make(MortgageRegister x);
+    }
+
     private static void undoEveryChange() {
+        undone("addParcel", x -> x.addParcel(5));
+        undone("register", x -> x.register(1, 1, 1));
+        undone("registerEqual", x -> x.registerEqual(1, 1, 1, 0));
+        undone("postpone", x -> x.postpone(0, 0, 1));
+        undone("release", x -> x.release(0, 1));
+        undone("cancel", x -> x.cancel(0));
+        undone("pay", x -> x.pay(1, 5));
+        undone("split", x -> x.split(0, 5));
+        undone("unite", x -> x.unite(0, 1));
+        undone("join", x -> x.join(0, 1));
+        undone("auction", x -> x.auction(0, 120, 10));
+        undone("run", x -> {
+            x.append('c' << 16 | '0' << 8 | ';');
+            return x.run();
+        });
+    }
+
+    private static void undone(String name, Change change) {
         MortgageRegister x = new MortgageRegister();
         x.addParcel(500);
         x.addParcel(300);
         x.register(0, 100, 0b11);
         x.register(0, 60, 0b11);
-        undone("addParcel", x, () -> x.addParcel(5));
-        undone("register", x, () -> x.register(1, 1, 1));
-        undone("registerEqual", x, () -> x.registerEqual(1, 1, 1, 0));
-        undone("postpone", x, () -> x.postpone(0, 0, 1));
-        undone("release", x, () -> x.release(0, 1));
-        undone("cancel", x, () -> x.cancel(0));
-        undone("pay", x, () -> x.pay(1, 5));
-        undone("split", x, () -> x.split(0, 5));
-        undone("unite", x, () -> x.unite(0, 1));
-        undone("join", x, () -> x.join(0, 1));
-        undone("auction", x, () -> x.auction(0, 120, 10));
-        x.append('c' << 16 | '0' << 8 | ';');
-        undoneRegister("run", x, x::run);
-    }
-
-    private static void undone(String name, MortgageRegister x, Check.Call change) {
         String before = Dump.of(x);
-        change.make();
+        change.make(x);
+        CHECK.due("36: kept behind " + name, x.count(5), 5);
         CHECK.isFalse("36: " + name + " changes something", Dump.of(x).equals(before));
         CHECK.due("36: left behind " + name, x.undo(), 4);
         CHECK.due("36: " + name + " is undone", Dump.of(x), before);
-    }
-
-    private static void undoneRegister(String name, MortgageRegister x, Check.Call change) {
-        String before = Dump.ofRegister(x);
-        change.make();
-        CHECK.isFalse("36: " + name + " changes something", Dump.ofRegister(x).equals(before));
-        CHECK.due("36: left behind " + name, x.undo(), 4);
-        CHECK.due("36: " + name + " is undone", Dump.ofRegister(x), before);
     }
 
     private static void refusedChangesCostNothing() {
@@ -165,6 +165,30 @@ public final class HistoryTest {
         x.append('n');
         x.restore();
         CHECK.due("38: the text buffer stays", x.count(6), 1);
+    }
+
+    // The snapshot must hold all numbers of a mortgage and a parcel whose numbers are used again.
+    private static void restoreUsedNumbers() {
+        MortgageRegister x = new MortgageRegister();
+        x.addParcel(100);
+        x.addParcel(200);
+        x.register(1, 30, 2);
+        x.pay(0, 3);
+        x.auction(1, 9, 1);
+        x.register(2, 40, 3);
+        x.save();
+        String saved = Dump.ofRegister(x);
+        for (int i = 0; i < 6; i++) {
+            x.undo();
+        }
+        CHECK.due("36: at the start", Dump.ofRegister(x), Dump.ofRegister(new MortgageRegister()));
+        x.addParcel(300);
+        x.register(3, 50, 1);
+        x.auction(0, 77, 7);
+        x.register(4, 60, 1);
+        x.register(5, 70, 1);
+        x.restore();
+        CHECK.due("38: numbers that were used again", Dump.ofRegister(x), saved);
     }
 
     // Postponements can make many slots; undo and snapshot must keep them all.
