@@ -30,7 +30,7 @@ public final class ChangesTest {
         CHECK.end();
     }
 
-    private static MortgageRegister withParcels(int... worths) {
+    static MortgageRegister withParcels(int... worths) {
         MortgageRegister x = new MortgageRegister();
         for (int worth : worths) {
             x.addParcel(worth);

@@ -12,8 +12,10 @@ public final class DrawersTest {
     }
 
     public static void main(String[] args) {
+        emptyAtFirst();
         newDrawer();
         file();
+        fileAWorth();
         fileRefused();
         filed();
         copyDrawer();
@@ -28,6 +30,27 @@ public final class DrawersTest {
         x.register(0, 200, 3);
         x.register(1, 100, 3);
         return x;
+    }
+
+    // "There are 3 drawers, each empty at first, or with 1 to 6 places"
+    private static void emptyAtFirst() {
+        MortgageRegister x = new MortgageRegister();
+        for (int d = 0; d < 3; d++) {
+            int drawer = d;
+            int before = 0;
+            CHECK.thrown("32: no places in " + d, NO_SUCH, x, () -> x.file(drawer, 0, 0, 0));
+            CHECK.thrown("33: no places in " + d, NO_SUCH, x, () -> x.filed(drawer, 0, true));
+            CHECK.thrown("34: nothing to copy in " + d, NOT_NOW, x, () -> x.copyDrawer(drawer, 0));
+            for (int sort = 0; sort < 2; sort++) {
+                for (int places = 1; places <= 6; places++) {
+                    CHECK.due("31: drawer " + d + ", " + places + " places", x.newDrawer(d, sort, places), before);
+                    before = places;
+                    int last = places - 1;
+                    CHECK.thrown("33: the last one is empty", NOT_THERE, x, () -> x.filed(drawer, last, true));
+                    CHECK.thrown("33: none behind it", NO_SUCH, x, () -> x.filed(drawer, last + 1, true));
+                }
+            }
+        }
     }
 
     // Promise 31
@@ -67,6 +90,25 @@ public final class DrawersTest {
         CHECK.due("32: a gone mortgage", x.file(1, 0, 1, 1), 0);
         CHECK.due("33: its number", x.filed(1, 0, true), 1);
         CHECK.due("33: its debt", x.filed(1, 0, false), 0);
+    }
+
+    // "as it was when the excerpt was made"
+    private static void fileAWorth() {
+        MortgageRegister x = example();
+        x.newDrawer(0, 0, 3);
+        x.save();
+        x.file(0, 0, 0, 0);
+        x.split(0, 499);
+        CHECK.due("32: the least worth", x.file(0, 1, 0, 0), 1);
+        CHECK.due("32: the new parcel", x.file(0, 2, 0, 2), 499);
+        CHECK.due("33: the worth before", x.filed(0, 0, false), 500);
+        x.undo();
+        CHECK.due("33: the worth before undo", x.filed(0, 1, false), 1);
+        CHECK.due("33: a parcel that never was", x.filed(0, 2, true), 2);
+        CHECK.thrown("32: is none", NOT_THERE, x, () -> x.file(0, 2, 0, 2));
+        x.restore();
+        CHECK.due("33: the worth before restore", x.filed(0, 2, false), 499);
+        CHECK.thrown("32: a parcel 8", NOT_THERE, x, () -> x.file(0, 2, 0, 8));
     }
 
     private static void fileRefused() {
@@ -132,6 +174,14 @@ public final class DrawersTest {
         CHECK.thrown("34: from -1", NO_SUCH, x, () -> x.copyDrawer(-1, 0));
         CHECK.thrown("34: to 3", NO_SUCH, x, () -> x.copyDrawer(1, 3));
         CHECK.thrown("34: to -1", NO_SUCH, x, () -> x.copyDrawer(0, -1));
+        CHECK.due("34: over a larger one", x.newDrawer(2, 1, 6), 2);
+        x.file(2, 5, 1, 1);
+        CHECK.due("34: its places", x.copyDrawer(0, 2), 2);
+        CHECK.thrown("34: what it had is gone", NO_SUCH, x, () -> x.filed(2, 5, true));
+        CHECK.due("34: a larger one over it", x.newDrawer(1, 1, 6), 0);
+        CHECK.due("34: six places", x.copyDrawer(1, 2), 6);
+        CHECK.thrown("34: with nothing in them", NOT_THERE, x, () -> x.filed(2, 5, true));
+        CHECK.thrown("34: nor in the first", NOT_THERE, x, () -> x.filed(2, 0, true));
     }
 
     private static void drawersStay() {

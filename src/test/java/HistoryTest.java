@@ -8,11 +8,13 @@ public final class HistoryTest {
 
     public static void main(String[] args) {
         count();
+        countedOnlyIfChanged();
         undo();
         undoEveryChange();
         refusedChangesCostNothing();
         save();
         restore();
+        restoreFillsAnew();
         restoreUsedNumbers();
         rowsThatGrow();
         CHECK.end();
@@ -38,6 +40,33 @@ public final class HistoryTest {
         x.pay(0, 1);
         x.pay(0, 1);
         CHECK.due("35: no more than 8 changes", x.count(5), 8);
+    }
+
+    // "A change is a successful call of any method from addParcel to run, except append."
+    private static void countedOnlyIfChanged() {
+        MortgageRegister x = new MortgageRegister();
+        x.addParcel(100);
+        x.register(0, 10, 1);
+        x.register(0, 20, 1);
+        x.newDrawer(0, 0, 1);
+        x.file(0, 0, 0, 0);
+        x.copyDrawer(0, 1);
+        x.save();
+        x.append('n');
+        CHECK.thrown("14: a fault", IllegalArgumentException.class, x::run);
+        CHECK.due("35: what is no change", x.count(5), 3);
+        CHECK.refused("35: what is refused", 2, x, () -> x.addParcel(0));
+        x.append('c' << 24 | '0' << 16 | ';' << 8 | 'c');
+        x.append('0' << 8 | ';');
+        CHECK.thrown("14: the second entry is refused", UnsupportedOperationException.class, x::run);
+        CHECK.due("35: still", x.count(5), 3);
+        x.append('c' << 24 | '0' << 16 | ';' << 8 | 'c');
+        x.append('1' << 8 | ';');
+        CHECK.due("14: two entries", x.run(), 2);
+        CHECK.due("35: are one change", x.count(5), 4);
+        CHECK.due("36: which is undone at once", x.undo(), 3);
+        CHECK.due("36: with both entries", x.count(2), 2);
+        CHECK.due("36: undo is no change", x.count(5), 3);
     }
 
     // Promise 36
@@ -167,6 +196,35 @@ public final class HistoryTest {
         CHECK.due("38: the text buffer stays", x.count(6), 1);
     }
 
+    // "restore forgets them": all that were kept, but none that come later.
+    private static void restoreFillsAnew() {
+        MortgageRegister x = new MortgageRegister();
+        x.addParcel(100);
+        x.register(0, 100, 1);
+        x.save();
+        for (int i = 0; i < 9; i++) {
+            x.pay(0, 1);
+        }
+        CHECK.due("35: 8 are kept", x.count(5), 8);
+        x.restore();
+        CHECK.due("38: all are forgotten", x.count(5), 0);
+        CHECK.thrown("36: none is kept", NOT_NOW, x, x::undo);
+        CHECK.due("38: the debt", x.mortgage(0, 1), 100);
+        for (int i = 0; i < 9; i++) {
+            x.pay(0, 2);
+            CHECK.due("35: kept anew", x.count(5), Math.min(8, i + 1));
+        }
+        for (int i = 7; i >= 0; i--) {
+            CHECK.due("36: undone anew", x.undo(), i);
+        }
+        CHECK.due("36: at the ninth before", x.mortgage(0, 1), 98);
+        CHECK.thrown("36: no more", NOT_NOW, x, x::undo);
+        CHECK.due("37: saved in place of the earlier one", x.save(), 1);
+        x.cancel(0);
+        x.restore();
+        CHECK.due("38: the later one", x.mortgage(0, 1), 98);
+    }
+
     // The snapshot must hold all numbers of a mortgage and a parcel whose numbers are used again.
     private static void restoreUsedNumbers() {
         MortgageRegister x = new MortgageRegister();
@@ -191,6 +249,30 @@ public final class HistoryTest {
         CHECK.due("38: numbers that were used again", Dump.ofRegister(x), saved);
     }
 
+    // With a row of some length, the changes that make it longer or shorter, or copy it.
+    private static void everyChangeIsUndone(MortgageRegister x) {
+        int slots = x.parcel(0, 1);
+        String before = Dump.ofRegister(x);
+        for (int m : new int[] {x.slot(0, 0, 0), x.slot(0, slots - 1, 0)}) {
+            CHECK.due("7: a mortgage of " + slots + " slots", x.cancel(m), 5000 + 397 * m);
+            x.undo();
+            CHECK.due("8: a mortgage of " + slots + " slots", x.pay(m, 4000), 1000 + 397 * m);
+            x.undo();
+        }
+        int part = x.split(0, 1);
+        CHECK.due("9: a row of " + slots + " slots", x.parcel(part, 1), slots);
+        CHECK.due("10: a row of " + slots + " slots", x.unite(part, 0), 9999);
+        CHECK.due("10: it stays", x.parcel(part, 1), slots);
+        x.undo();
+        CHECK.due("6: a row of " + slots + " slots", x.release(x.slot(part, 0, 0), part), 1);
+        x.undo();
+        x.undo();
+        CHECK.due("12: a row of " + slots + " slots", x.auction(0, 9999, 0), 0);
+        CHECK.due("12: it vanishes", x.parcel(0, 1), 0);
+        x.undo();
+        CHECK.due("36: a row of " + slots + " slots", Dump.ofRegister(x), before);
+    }
+
     // Postponements can make many slots; undo and snapshot must keep them all.
     private static void rowsThatGrow() {
         MortgageRegister x = new MortgageRegister();
@@ -206,7 +288,7 @@ public final class HistoryTest {
         String before = Dump.ofRegister(x);
         int most = 0;
         String beforeLast = before;
-        for (int i = 0; i < 480; i++) {
+        for (int i = 0; i < 300; i++) {
             String now = Dump.ofRegister(x);
             try {
                 x.postpone(0, i * 7 % 12, (i * 5 + i / 12) % 12);
@@ -214,7 +296,11 @@ public final class HistoryTest {
             } catch (UnsupportedOperationException e) {
                 continue;
             }
-            most = Math.max(most, x.parcel(0, 1));
+            int slots = x.parcel(0, 1);
+            if (slots > most) {
+                everyChangeIsUndone(x);
+            }
+            most = Math.max(most, slots);
         }
         CHECK.isTrue("5: many slots, " + most, most > 24);
         x.undo();

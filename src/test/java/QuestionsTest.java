@@ -23,6 +23,7 @@ public final class QuestionsTest {
         coverBits();
         load();
         loadBits();
+        loadBitsOfPowersOfTwo();
         claims();
         account();
         CHECK.end();
@@ -128,6 +129,9 @@ public final class QuestionsTest {
         CHECK.thrown("20: mortgage -1", NO_SUCH, x, () -> x.rank(0, -1, false));
         CHECK.thrown("20: a gone mortgage", NOT_THERE, x, () -> x.rank(0, 4, false));
         CHECK.thrown("20: not on it", NOT_THERE, x, () -> x.rank(1, 1, true));
+        CHECK.thrown("20: a bare parcel", NOT_THERE, x, () -> x.rank(3, 0, false));
+        CHECK.thrown("20: parcel -1", NO_SUCH, x, () -> x.rank(-1, 0, false));
+        CHECK.thrown("20: mortgage 12", NO_SUCH, x, () -> x.rank(0, 12, true));
     }
 
     // Promise 21
@@ -146,6 +150,10 @@ public final class QuestionsTest {
         CHECK.thrown("21: the one is not on it", NOT_THERE, x, () -> x.isAhead(1, 1, 0));
         CHECK.thrown("21: the other is not on it", NOT_THERE, x, () -> x.isAhead(1, 0, 2));
         CHECK.thrown("21: a gone one", NOT_THERE, x, () -> x.isAhead(0, 0, 4));
+        CHECK.thrown("21: a gone one first", NOT_THERE, x, () -> x.isAhead(0, 4, 0));
+        CHECK.thrown("21: first none such, then not on it", NO_SUCH, x, () -> x.isAhead(1, 1, 5));
+        CHECK.thrown("21: no such one, and the other not on it", NO_SUCH, x, () -> x.isAhead(1, -1, 1));
+        CHECK.thrown("21: no such parcel", NO_SUCH, x, () -> x.isAhead(4, 4, 4));
     }
 
     // Promise 22
@@ -172,6 +180,11 @@ public final class QuestionsTest {
         CHECK.thrown("22: price 10000", WRONG, x, () -> x.proceeds(0, 10000, 0, 0));
         CHECK.thrown("22: costs -1", WRONG, x, () -> x.proceeds(0, 10, -1, 0));
         CHECK.thrown("22: costs above the price", WRONG, x, () -> x.proceeds(0, 10, 11, 1));
+        CHECK.thrown("22: first no parcel, then the price", NO_SUCH, x, () -> x.proceeds(4, 0, -1, 0));
+        CHECK.thrown("22: first no mortgage, then the costs", NO_SUCH, x, () -> x.proceeds(0, 10, 11, -1));
+        CHECK.thrown("22: great costs", WRONG, x, () -> x.proceeds(0, 9999, Integer.MAX_VALUE, 0));
+        CHECK.thrown("22: a great price", WRONG, x, () -> x.proceeds(0, Integer.MAX_VALUE, 0, 0));
+        CHECK.thrown("22: a price and costs far below 0", WRONG, x, () -> x.proceeds(0, Integer.MIN_VALUE, 1, 0));
         CHECK.thrown("22: costs wrong for one that is not on it", WRONG, x, () -> x.proceeds(1, 10, 11, 1));
     }
 
@@ -186,6 +199,10 @@ public final class QuestionsTest {
         CHECK.thrown("23: no such mortgage", NO_SUCH, x, () -> x.surePrice(0, -1, 5));
         CHECK.thrown("23: costs -1", WRONG, x, () -> x.surePrice(0, -1, 0));
         CHECK.thrown("23: costs 10000", WRONG, x, () -> x.surePrice(1, 10000, 1));
+        CHECK.thrown("23: first none such, then the costs", NO_SUCH, x, () -> x.surePrice(0, 10000, 5));
+        CHECK.thrown("23: first no parcel, then the costs", NO_SUCH, x, () -> x.surePrice(2, -1, 0));
+        CHECK.thrown("23: first the costs, then a gone one", WRONG, x, () -> x.surePrice(0, 10000, 4));
+        CHECK.due("23: the greatest costs", x.surePrice(0, 9999, 0), 10499);
         CHECK.thrown("23: not on it", NOT_THERE, x, () -> x.surePrice(1, 0, 1));
         CHECK.thrown("23: a gone one", NOT_THERE, x, () -> x.surePrice(0, 0, 4));
     }
@@ -220,6 +237,9 @@ public final class QuestionsTest {
         CHECK.thrown("25: no such mortgage", NO_SUCH, x, () -> x.cover(0, 5));
         CHECK.thrown("25: not on it", NOT_THERE, x, () -> x.cover(1, 1));
         CHECK.thrown("25: a gone one", NOT_THERE, x, () -> x.cover(0, 4));
+        CHECK.thrown("25: a bare parcel", NOT_THERE, x, () -> x.cover(3, 0));
+        CHECK.thrown("25: mortgage -1", NO_SUCH, x, () -> x.cover(0, -1));
+        CHECK.thrown("25: parcel -1", NO_SUCH, x, () -> x.cover(-1, 0));
     }
 
     private static void floats(String what, float got, float want) {
@@ -251,6 +271,9 @@ public final class QuestionsTest {
         CHECK.thrown("26: a gone parcel", NO_SUCH, x, () -> x.coverBits(2, 0));
         CHECK.thrown("26: no such mortgage", NO_SUCH, x, () -> x.coverBits(0, 5));
         CHECK.thrown("26: not on it", NOT_THERE, x, () -> x.coverBits(1, 1));
+        CHECK.thrown("26: a gone one", NOT_THERE, x, () -> x.coverBits(0, 4));
+        CHECK.thrown("26: mortgage -1", NO_SUCH, x, () -> x.coverBits(0, -1));
+        CHECK.thrown("26: parcel 8", NO_SUCH, x, () -> x.coverBits(8, 0));
     }
 
     // Promise 27
@@ -280,6 +303,37 @@ public final class QuestionsTest {
                 CHECK.due("28: " + worth + ", " + m, y.loadBits(), Double.doubleToLongBits(due));
             }
         }
+    }
+
+    private static void loadBitsOfPowersOfTwo() {
+        int[][] pairs = {{1, 1}, {9999, 9999}, {2, 1}, {4, 2}, {4, 1}, {8192, 1}, {1, 2}, {3, 6}, {1, 4}, {1, 8192},
+            {9999, 1}, {1, 9999}, {9998, 9999}, {3, 2}};
+        for (int[] pair : pairs) {
+            MortgageRegister x = new MortgageRegister();
+            x.addParcel(pair[1]);
+            x.register(0, pair[0], 1);
+            double due = (double) pair[0] / (double) pair[1];
+            CHECK.due("28: " + pair[0] + " by " + pair[1], x.loadBits(), Double.doubleToLongBits(due));
+            long bits = Double.doubleToLongBits(x.load());
+            CHECK.due("27: " + pair[0] + " by " + pair[1], bits, Double.doubleToLongBits(due));
+            CHECK.due("26: " + pair[0] + " by " + pair[1], x.coverBits(0, 0), Float.floatToIntBits((float) due));
+        }
+        MortgageRegister y = new MortgageRegister();
+        for (int p = 0; p < 8; p++) {
+            y.addParcel(9999);
+        }
+        for (int m = 0; m < 12; m++) {
+            y.register(0, 9999, 1);
+        }
+        CHECK.due("28: the greatest sums", y.loadBits(), Double.doubleToLongBits(119988.0 / 79992.0));
+        CHECK.due("17: the greatest sum of amounts", y.parcel(0, 3), 119988);
+        CHECK.due("23: the greatest price", y.surePrice(0, 9999, 11), 129987);
+        MortgageRegister z = new MortgageRegister();
+        z.save();
+        z.addParcel(1);
+        z.restore();
+        CHECK.thrown("28: no parcels any more", ArithmeticException.class, z, z::loadBits);
+        CHECK.thrown("27: no parcels any more", ArithmeticException.class, z, z::load);
     }
 
     // Promise 29

@@ -89,7 +89,7 @@ public final class RandomRunsTest {
         }
     }
 
-    private static Map<String, Method> methodsOf(Class<?> type) {
+    static Map<String, Method> methodsOf(Class<?> type) {
         Map<String, Method> methods = new TreeMap<>();
         for (Method method : type.getDeclaredMethods()) {
             if (java.lang.reflect.Modifier.isPublic(method.getModifiers())) {
@@ -164,7 +164,7 @@ public final class RandomRunsTest {
         return String.join("\n", told.subList(first, told.size())) + "\nbut answered " + got;
     }
 
-    private static String answer(Method method, Object object, Object... arguments) throws ReflectiveOperationException {
+    static String answer(Method method, Object object, Object... arguments) throws ReflectiveOperationException {
         try {
             return method.invoke(object, arguments).toString();
         } catch (InvocationTargetException e) {

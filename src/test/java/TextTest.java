@@ -8,11 +8,16 @@ public final class TextTest {
     public static void main(String[] args) {
         append();
         appendRefused();
+        appendToTheLastCharacter();
         everyEntry();
         order();
         manyEntries();
+        entriesBesideOthers();
         digits();
+        mostDigits();
         faults();
+        faultsAtEachPlace();
+        faultsBehindLongerTexts();
         faultsLeaveAllElse();
         refusedEntries();
         allOrNone();
@@ -68,6 +73,38 @@ public final class TextTest {
         CHECK.due("13: to the end", x.append('n' << 24 | 'n'), 60);
         CHECK.thrown("13: one too many", IllegalStateException.class, x, () -> x.append('n'));
         CHECK.thrown("13: first wrong, then too many", IllegalArgumentException.class, x, () -> x.append(31));
+    }
+
+    // A byte of each place counts one character, be its bits even or odd.
+    private static void appendToTheLastCharacter() {
+        int[] one = {' ', '!', '}', '~', ' ' << 8, '!' << 8, '}' << 8, '~' << 8, ' ' << 16, '!' << 16, '}' << 16,
+            '~' << 16, ' ' << 24, '!' << 24, '}' << 24, '~' << 24};
+        for (int packed : one) {
+            MortgageRegister x = withCharacters(59);
+            CHECK.due("13: one for the last place, " + packed, x.append(packed), 60);
+            CHECK.thrown("13: one behind the last place, " + packed, IllegalStateException.class, x,
+                () -> x.append(packed));
+        }
+        int[] two = {' ' << 8 | '~', '!' << 16 | '@', '@' << 24 | '!', '}' << 16 | ' ' << 8, ' ' << 24 | '~' << 8};
+        for (int packed : two) {
+            MortgageRegister x = withCharacters(59);
+            CHECK.thrown("13: two for the last place, " + packed, IllegalStateException.class, x,
+                () -> x.append(packed));
+            MortgageRegister y = withCharacters(58);
+            CHECK.due("13: two for two places, " + packed, y.append(packed), 60);
+        }
+        int four = 'n' << 24 | '1' << 16 | ';' << 8 | 'c';
+        MortgageRegister z = withCharacters(57);
+        CHECK.thrown("13: four for three places", IllegalStateException.class, z, () -> z.append(four));
+        CHECK.due("13: four for four places", withCharacters(56).append(four), 60);
+        CHECK.due("13: four for an empty buffer", withCharacters(0).append(four), 4);
+    }
+
+    private static MortgageRegister withCharacters(int count) {
+        MortgageRegister x = new MortgageRegister();
+        appendAll(x, "x".repeat(count));
+        CHECK.due("13: " + count + " characters", x.count(6), count);
+        return x;
     }
 
     // Promise 14
@@ -145,6 +182,49 @@ public final class TextTest {
         CHECK.due("15: at the end", x.faultPosition(), 59);
     }
 
+    // What an entry tells is its own, whatever stands ahead of it or behind it.
+    private static void entriesBesideOthers() {
+        MortgageRegister x = new MortgageRegister();
+        CHECK.due("14: e ahead of another entry", run(x, "n90;m0:1@0;m1:2@0;e2:3@0=0;y1:1;"), 5);
+        CHECK.due("14: e has its own other mortgage", Dump.row(x, 0), "0:1/1 2:3/1 1:1/2");
+        CHECK.due("14: e, a and n", run(x, "e3:4@0=1;a0:5,0;n7;"), 3);
+        CHECK.due("14: e was carried out ahead of a", x.mortgage(3, 0), 3);
+        CHECK.due("14: a behind e", x.account(5), 1 + 4 - 1);
+        CHECK.due("14: n behind a", x.parcel(1, 0), 7);
+    }
+
+    private static void mostDigits() {
+        MortgageRegister x = new MortgageRegister();
+        CHECK.due("14: a worth of four digits", run(x, "n9999;n0001;n1;n1;n1;n1;n1;n1;"), 8);
+        CHECK.due("14: eight parcels", run(x, "m5:9999@01234567;"), 1);
+        CHECK.due("14: they are all", x.mortgage(0, 2), 255);
+        CHECK.due("14: one parcel, told eight times", run(x, "m5:0001@77777777;"), 1);
+        CHECK.due("14: it counts once", x.mortgage(1, 4), 1);
+        CHECK.due("14: equal rank", run(x, "e0:9998@76543210=00;"), 1);
+        for (int m = 3; m < 12; m++) {
+            x.register(0, 3, 1);
+        }
+        CHECK.due("14: two digits in each place", run(x, "p0:11<10;r00@7;"), 2);
+        CHECK.due("14: the last one stepped ahead", x.rank(0, 11, true) - x.rank(0, 10, false), -1);
+        CHECK.due("14: two mortgages of two digits", run(x, "j11+10;"), 1);
+        CHECK.due("14: they are one", x.mortgage(11, 1), 6);
+        CHECK.due("14: a price of four digits and costs of 0", run(x, "a0:9999,0000;"), 1);
+        CHECK.due("14: the price", x.parcel(0, 4), 9999);
+        CHECK.due("14: costs as great as the price", run(x, "a1:0009,9;"), 1);
+        CHECK.due("14: a new parcel out of four digits is refused", refusalOf(x, "s0:0001;"), 4);
+        CHECK.due("14: creditor 9 is refused", refusalOf(x, "m9:1@7;"), 2);
+        CHECK.due("14: parcel 8 is refused", refusalOf(x, "m0:1@78;"), 1);
+        CHECK.due("14: parcel 9 is refused", refusalOf(x, "a9:1,0;"), 1);
+        CHECK.due("14: mortgage 12 is refused", refusalOf(x, "c12;"), 1);
+        CHECK.due("14: mortgage 99 is refused", refusalOf(x, "y99:1;"), 1);
+    }
+
+    private static int refusalOf(MortgageRegister x, String text) {
+        CHECK.thrown("14: " + text, UnsupportedOperationException.class, () -> run(x, text));
+        CHECK.due("15: no fault in " + text, x.faultPosition(), -1);
+        return x.refusal();
+    }
+
     private static void digits() {
         MortgageRegister x = new MortgageRegister();
         CHECK.due("14: numbers may begin with 0", run(x, "n0007;n01;n9999;"), 3);
@@ -220,6 +300,52 @@ public final class TextTest {
         fault("n7;m0:5@0;c9;n", 14);
         // Entries ahead of the fault would be refused, but the fault comes first.
         fault("n0;c9;c", 7);
+    }
+
+    // Where each entry is cut off, or goes on with what no entry has there.
+    private static void faultsAtEachPlace() {
+        String[] entries = {"n1;", "m1:2@3;", "e1:2@3=4;", "p1:2<3;", "r1@2;", "c1;", "y1:2;", "s1:2;", "u1+2;",
+            "j1+2;", "a1:2,3;"};
+        for (String entry : entries) {
+            for (int i = 0; i < entry.length(); i++) {
+                fault(entry.substring(0, i), i);
+                fault(entry + "c2;" + entry.substring(0, i) + (i == 0 ? ";" : ""), entry.length() + 3 + i);
+                for (char sign : " !/x~".toCharArray()) {
+                    fault(entry.substring(0, i) + sign + entry.substring(i), i);
+                }
+            }
+            fault(entry + ";", entry.length());
+            fault(entry + " ", entry.length());
+        }
+        fault("n/;", 1);
+        fault("n:;", 1);
+        fault("c9:;", 2);
+        fault("c9/;", 2);
+        fault("m/:1@0;", 1);
+        fault("m::1@0;", 1);
+        fault("m1:1@0:;", 6);
+        fault("m1:1@0123456789;", 13);
+        fault("m1:1@000000000;", 13);
+        fault("m01:1@0;", 2);
+        fault("e01:1@0=1;", 2);
+        fault("a01:1,0;", 2);
+        fault("n00001;", 5);
+        fault("y000:1;", 3);
+    }
+
+    // What an earlier text had further on is no part of a text.
+    private static void faultsBehindLongerTexts() {
+        MortgageRegister x = new MortgageRegister();
+        CHECK.due("14: a text", run(x, "n1;n2;n34;"), 3);
+        String[] shorter = {"n1", "n1;n", "n1;n2", "n1;n2;n", "n1;n2;n3", "n1;n2;n34", ""};
+        for (String text : shorter) {
+            CHECK.thrown("14: then \"" + text + '"', IllegalArgumentException.class, () -> run(x, text));
+            CHECK.due("15: then \"" + text + '"', x.faultPosition(), text.length());
+        }
+        CHECK.due("14: nothing of them was carried out", x.count(1), 3);
+        CHECK.thrown("14: 60 characters", IllegalArgumentException.class, () -> run(x, "n1;".repeat(19) + "n12"));
+        CHECK.due("15: end too early", x.faultPosition(), 60);
+        CHECK.due("14: fewer again", run(x, "n5;"), 1);
     }
 
     private static void faultsLeaveAllElse() {
