@@ -10,6 +10,7 @@ public final class HistoryTest {
         count();
         countedOnlyIfChanged();
         undo();
+        undoneNumbers();
         undoEveryChange();
         refusedChangesCostNothing();
         save();
@@ -97,6 +98,25 @@ public final class HistoryTest {
             CHECK.due("36: what is left of the ring", x.undo(), i);
             CHECK.due("36: the debt in the ring", x.mortgage(0, 1), 77 - i);
         }
+    }
+
+    // What was undone never was, and its number is free again.
+    private static void undoneNumbers() {
+        MortgageRegister x = new MortgageRegister();
+        x.addParcel(100);
+        x.undo();
+        CHECK.thrown("17: a parcel that was undone", IndexOutOfBoundsException.class, x, () -> x.parcel(0, 0));
+        CHECK.due("36: its number", x.addParcel(200), 0);
+        x.register(0, 10, 1);
+        x.undo();
+        CHECK.thrown("19: a mortgage that was undone", IndexOutOfBoundsException.class, x, () -> x.mortgage(0, 0));
+        CHECK.thrown("20: its rank", IndexOutOfBoundsException.class, x, () -> x.rank(0, 0, true));
+        CHECK.refused("7: it is none", 1, x, () -> x.cancel(0));
+        CHECK.due("36: its number", x.register(3, 20, 1), 0);
+        CHECK.due("19: its creditor", x.mortgage(0, 0), 3);
+        x.cancel(0);
+        x.undo();
+        CHECK.due("36: one that was gone is there", x.pay(0, 1), 19);
     }
 
     private interface Change {
